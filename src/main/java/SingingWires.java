@@ -443,10 +443,6 @@ public final class SingingWires {
             high = crept(high, creep);
         }
 
-        boolean bursts() {
-            return !broken && task > strength;
-        }
-
         boolean isSlack() {
             return !broken && tension < task;
         }
@@ -639,10 +635,11 @@ public final class SingingWires {
 
         int worstBursting() {
             int worst = NO_WIRE;
+            // Only a task above the strength bursts a wire; a broken one's task is 0, and never above it.
             int mostAbove = 0;
             for (int number = 0; number < wireCount; number++) {
                 int above = wires[number].task - wires[number].strength;
-                if (wires[number].bursts() && above > mostAbove) {
+                if (above > mostAbove) {
                     worst = number;
                     mostAbove = above;
                 }
@@ -678,10 +675,10 @@ public final class SingingWires {
 
         /** The first whole wire at this place or to the right of it, or null. */
         Wire nextWhole(int from) {
-            for (int at = Math.max(from, 0); at < PLACES; at++) {
-                Wire wire = wireNumbered(wireAt[at]);
-                if (wire != null && !wire.broken) {
-                    return wire;
+            for (int at = 0; at < PLACES; at++) {
+                int number = wireAt[at];
+                if (at >= from && number >= 0 && number < wireCount && !wires[number].broken) {
+                    return wires[number];
                 }
             }
             return null;

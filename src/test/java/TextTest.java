@@ -88,6 +88,8 @@ public final class TextTest {
         faultOf("t99999", none);
         faultOf("t100000", 6);
         faultOf("t999990;h", 6);
+        faultOf("t111111", 6);
+        faultOf("t12345678", 6);
         faultOf("t99999;d99999", none);
         faultOf("d-1", 1);
         faultOf("g1=2", 2);
@@ -209,5 +211,12 @@ public final class TextTest {
         Check.type(x, "d100;d100;d100;d100;d100;d100;d100;d100;d100;d100;d100;d100");
         Check.due("twelve hundred days", x.carryOut(), 12);
         Check.due("count(0)", x.count(0), 1200);
+        Check.type(x, "h;h;h;h;h;h;h;h;h;h;h;h;h;h;h;h;h;h;h;h;h;h;h;h;h;h;h;h;p1=5");
+        Check.due("sixty characters", x.count(9), 60);
+        Check.due("to the very last one", x.carryOut(), 29);
+        Check.due("count(5)", x.count(5), 5);
+        Check.type(x, "g9");
+        Check.due("nothing is left of the longer text before", x.carryOut(), 1);
+        Check.due("count(3)", x.count(3), 9);
     }
 }

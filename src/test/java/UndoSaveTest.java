@@ -2,7 +2,10 @@
 public final class UndoSaveTest {
     public static void main(String[] args) {
         undo();
+        undoAfterAnError();
         undoOfEverything();
+        undoOfEachChange();
+        rowsAreUsedAgain();
         notRecorded();
         undoLeavesPadAndSlots();
         save();
@@ -31,6 +34,20 @@ public final class UndoSaveTest {
         Check.due("undo", x.undo(), 0);
         Check.due("place", x.count(3), 3);
         Check.due("walked", x.count(4), 3);
+    }
+
+    private static void undoAfterAnError() {
+        SingingWires x = new SingingWires();
+        for (int place = 1; place <= 9; place++) {
+            x.walk(place);
+        }
+        x.walk(20);
+        x.hear();
+        for (int left = 5; left >= 0; left--) {
+            Check.due("undo", x.undo(), left);
+            Check.due("place", x.count(3), 3 + left);
+            Check.due("walked", x.count(4), 3 + left);
+        }
     }
 
     private static void undoOfEverything() {
@@ -66,6 +83,93 @@ public final class UndoSaveTest {
             Check.due("count(" + what + ")", x.count(what), due[what]);
         }
         Check.due("the place of the undone wire is free", x.wire(7, 10, 1, 600, 500), 1);
+    }
+
+    private static int[] look(SingingWires x) {
+        int[] all = new int[200];
+        int n = 0;
+        for (int what = 0; what <= 12; what++) {
+            // Not the pad, and not how many changes can be undone.
+            all[n++] = what == 9 || what == 10 ? 0 : x.count(what);
+        }
+        for (int wire = 0; wire < 8; wire++) {
+            for (int what = 0; what <= 10; what++) {
+                all[n++] = x.ofWire(wire, what);
+            }
+            for (int what = 0; what <= 6; what++) {
+                all[n++] = x.known(wire, what);
+            }
+        }
+        for (int place = 0; place < 20; place++) {
+            all[n++] = x.mostAt(place);
+        }
+        return all;
+    }
+
+    private static void same(String call, int[] got, int[] want) {
+        for (int i = 0; i < want.length; i++) {
+            Check.due(call + ", number " + i, got[i], want[i]);
+        }
+    }
+
+    private static int change(SingingWires x, int which) {
+        switch (which) {
+            case 0: return x.set(0, 55);
+            case 1: return x.set(1, 55);
+            case 2: return x.wire(12, 30, 4, 500, 300);
+            case 3: return x.load(0, 990);
+            case 4: return x.load(6, 3);
+            case 5: return x.days(9);
+            case 6: return x.walk(17);
+            case 7: return x.hear();
+            case 8: return x.tighten(20);
+            case 9: return x.restore(0);
+            default:
+                x.put(Check.packed("d3;g9"));
+                return x.carryOut();
+        }
+    }
+
+    private static void undoOfEachChange() {
+        for (int which = 0; which <= 10; which++) {
+            SingingWires x = new SingingWires();
+            x.wire(9, 70, 4, 800, 300);
+            x.save(0);
+            x.wire(0, 100, 5, 500, 400);
+            x.load(3, 20);
+            x.days(2);
+            int[] before = look(x);
+            int left = x.count(10);
+            Check.due("change " + which + " goes well", change(x, which) < 0 ? 1 : 0, 0);
+            Check.due("change " + which + " is recorded", x.count(10), left + 1);
+            Check.due("undo of change " + which, x.undo(), left);
+            same("after undo of change " + which, look(x), before);
+        }
+    }
+
+    /** What a wire was that is undone must not be seen in the next one of the same number. */
+    private static void rowsAreUsedAgain() {
+        SingingWires x = new SingingWires();
+        x.wire(0, 100, 5, 500, 400);
+        x.tighten(300);
+        x.load(0, 51);
+        x.hear();
+        Check.due("broken", x.known(0, 3), 1);
+        x.save(0);
+        for (int i = 0; i < 4; i++) {
+            x.undo();
+        }
+        Check.due("no wires", x.count(1), 0);
+        Check.due("another wire 0", x.wire(7, 20, 2, 900, 800), 0);
+        SingingWires fresh = new SingingWires();
+        fresh.wire(7, 20, 2, 900, 800);
+        same("as new", look(x), look(fresh));
+        x.walk(3);
+        x.restore(0);
+        int[] due = {0, 100, 5, 500, 0, 1, 0, 0, 0, 0, 0};
+        for (int what = 0; what <= 10; what++) {
+            Check.due("restored, ofWire(0, " + what + ")", x.ofWire(0, what), due[what]);
+        }
     }
 
     private static void notRecorded() {

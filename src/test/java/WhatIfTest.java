@@ -32,6 +32,8 @@ public final class WhatIfTest {
         Check.due("the highest", x.pitchAt(1, 50000), 22360);
         x.wire(6, 200, 20, 50000, 0);
         Check.due("the lowest above 0", x.pitchAt(2, 1), 1);
+        Check.due("a power of two", x.pitchAt(1, 26844), 16384);
+        Check.due("just below", x.pitchAt(1, 26843), 16383);
     }
 
     private static void tensionFor() {
@@ -52,6 +54,9 @@ public final class WhatIfTest {
         Check.due("of a broken one", x.tensionFor(0, 77), 297);
         x.wire(5, 10, 1, 50000, 0);
         Check.due("a pitch that is never met itself", x.tensionFor(1, 101), 2);
+        x.wire(6, 13, 1, 50000, 0);
+        // 16827 * 16827 * 169 = 47852000001.
+        Check.due("rounded up from the least rest", x.tensionFor(2, 16827), 47853);
     }
 
     private static void fallsWith() {
@@ -94,6 +99,14 @@ public final class WhatIfTest {
         x.load(0, 51);
         Check.due("broken ones don't count", x.mostAt(0), 200);
         Check.due("what is there counts elsewhere", x.mostAt(19), 149);
+        for (int most : new int[] {11, 511, 512, 513, 999, 1000}) {
+            SingingWires y = new SingingWires();
+            y.wire(4, 100, 5, 10 * most + 9, 0);
+            Check.due("mostAt(7)", y.mostAt(7), most);
+        }
+        SingingWires strong = new SingingWires();
+        strong.wire(4, 100, 5, 50000, 0);
+        Check.due("1000 at most", strong.mostAt(7), 1000);
     }
 
     private static void slackIn() {
