@@ -686,11 +686,10 @@ public final class SingingWires {
 
         void share(int at, Wire left, Wire right) {
             int task = TASK_OF_LOAD * loads[at];
-            if (left == null && right == null) {
-                return;
-            }
             if (left == null) {
-                right.task += task;
+                if (right != null) {
+                    right.task += task;
+                }
                 return;
             }
             if (right == null) {
