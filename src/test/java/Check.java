@@ -19,6 +19,13 @@ final class Check {
         }
     }
 
+    static void same(String call, int[] got, int[] want) {
+        due(call + ", how many numbers", got.length, want.length);
+        for (int i = 0; i < Math.min(got.length, want.length); i++) {
+            due(call + ", number " + i, got[i], want[i]);
+        }
+    }
+
     /** Appends a text of any length to the pad, eight characters at a time. */
     static void type(SingingWires x, String text) {
         for (int from = 0; from < text.length(); from += 8) {
