@@ -60,7 +60,8 @@ public final class AskingEdgesTest {
             {10, 1, 49997, 22360}, {10, 1, 49996, 22359}, {200, 20, 50000, 250}, {200, 20, 49999, 249},
             {200, 20, 1, 1}, {200, 20, 3, 1}, {200, 20, 4, 2}, {200, 1, 1, 5}, {10, 20, 50000, 5000},
             {10, 20, 49999, 4999}, {100, 5, 50000, 1000}, {100, 5, 49999, 999}, {100, 5, 1, 4}, {199, 19, 50000, 257},
-            {11, 3, 12345, 5831}};
+            {11, 3, 12345, 5831}, {13, 1, 47852, 16826}, {13, 1, 47853, 16827}};
+        // The last two: 16827 * 16827 * 169 = 47852000001, just above 47852 * 1000000.
         for (int[] d : due) {
             SingingWires x = new SingingWires();
             x.wire(0, d[0], d[1], 50000, d[2]);
@@ -255,6 +256,9 @@ public final class AskingEdgesTest {
         // 20 * 20 * 50000 = 20000000 is met, 21 * 21 * 50000 = 22050000 is not.
         Check.due("a whole number", x.tensionFor(0, 20), 20);
         Check.due("rounded up", x.tensionFor(0, 21), 23);
+        x.wire(1, 13, 1, 50000, 0);
+        // 16827 * 16827 * 169 = 47852000001.
+        Check.due("rounded up from the least rest", x.tensionFor(1, 16827), 47853);
     }
 
     private static void tensionForNone() {

@@ -75,6 +75,9 @@ public final class UndoSaveEdgesTest {
         }
         Check.due("the state without a load is dropped", x.undo(), NOT_POSSIBLE);
         Check.due("loads", x.count(5), 1);
+        x.load(0, 99);
+        Check.due("a change of the oldest that is left", x.undo(), 0);
+        Check.due("loads", x.count(5), 1);
     }
 
     private static void undoneAndDoneAgain() {
