@@ -5,6 +5,8 @@ import java.lang.reflect.Method;
 import java.lang.reflect.Modifier;
 import java.nio.file.Files;
 import java.nio.file.Path;
+import java.util.ArrayList;
+import java.util.List;
 import java.util.Set;
 import java.util.TreeSet;
 import java.util.regex.Matcher;
@@ -29,6 +31,7 @@ public final class FaceTest {
         noMethodTwice();
         Check.about("LANGUAGE.md");
         words();
+        shape();
         Check.end();
     }
 
@@ -99,6 +102,28 @@ public final class FaceTest {
                 + "|Object|Thread|Random|hashCode|toString|equals|\\w+Exact|double|float)\\b|->|::|\"").matcher(code);
         while (m.find()) {
             Check.due("the word " + m.group(), 1, 0);
+        }
+    }
+
+    /** Rules 5 and 11: no static state, and nothing too large. */
+    private static void shape() {
+        List<Class<?>> all = new ArrayList<>(List.of(SingingWires.class.getDeclaredClasses()));
+        all.add(SingingWires.class);
+        Check.due("at most twelve classes", all.size() <= 12 ? 1 : 0, 1);
+        for (Class<?> each : all) {
+            int own = 0;
+            for (Field field : each.getDeclaredFields()) {
+                boolean constant = Modifier.isFinal(field.getModifiers()) && field.getType().isPrimitive();
+                if (Modifier.isStatic(field.getModifiers())) {
+                    Check.due("static " + field + " is a constant", constant ? 1 : 0, 1);
+                } else {
+                    own++;
+                }
+            }
+            Check.due(each + " has at most twenty fields", own <= 20 ? 1 : 0, 1);
+            for (Method method : each.getDeclaredMethods()) {
+                Check.due(method + " takes at most seven", method.getParameterCount() <= 7 ? 1 : 0, 1);
+            }
         }
     }
 }
